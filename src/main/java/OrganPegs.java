@@ -436,9 +436,9 @@ public final class OrganPegs {
 
     /** The bars that a peg covers, as a set (bit b for the bar b). */
     private static int span(int bar, int length) {
-        int straight = (1 << length) - 1 << bar;
-        int ring = straight | straight >>> BARS;
-        return ring & (1 << BARS) - 1;
+        int straight = ((1 << length) - 1) << bar;
+        int ring = straight | (straight >>> BARS);
+        return ring & ((1 << BARS) - 1);
     }
 
     /** Lines of whole numbers, numbered by age. A cell that does not exist reads as 0, so no index ever fails. */
@@ -476,7 +476,7 @@ public final class OrganPegs {
             }
         }
 
-        /** Adds a line; the caller has tested that the table is not full, and writes every cell of it. */
+        /** Adds a line; the caller writes every cell of it, as a line that is gone may have left its numbers. NONE if the table is full. */
         int addLine() {
             if (isFull()) {
                 return NONE;
@@ -625,7 +625,7 @@ public final class OrganPegs {
         }
 
         int soundedAgo(int ticks) {
-            return (int) (past >>> PIPES * ticks) & (1 << PIPES) - 1;
+            return (int) (past >>> (PIPES * ticks)) & ((1 << PIPES) - 1);
         }
 
         boolean isOpen(int pipe, int bar) {
@@ -808,7 +808,7 @@ public final class OrganPegs {
                     }
                 }
             }
-            past = past << PIPES | sounding;
+            past = (past << PIPES) | sounding;
             // An echo of 0 adds the pipes that sound now: nothing new is heard.
             heard = sounding | soundedAgo(settings[ECHO]);
         }

@@ -34,6 +34,7 @@ public final class OrganPegsPromises {
         promise16Wind();
         promise17Set();
         promise18Undo();
+        promise18And27WholeState();
         promise19DoneIn();
         promise20SoundsIn();
         promise21LeastSpeed();
@@ -666,6 +667,36 @@ public final class OrganPegsPromises {
         is("18: nor is a save slot", 9, x.setting(2));
     }
 
+    /** Everything that a state has becomes different, and comes back. */
+    private static void promise18And27WholeState() {
+        OrganPegs x = loaded("Op0022p1101l500t02v103v207p4022");
+        String before = picture(x);
+        int sounds = x.simulate(9, 60);
+        x.save(0);
+        x.pull(5, 1);
+        x.pull(0, 2);
+        x.set(0, 2);
+        x.set(1, 5);
+        x.set(2, 0);
+        x.ticks(40);
+        is("18: all different", false, before.equals(picture(x)));
+        for (int left = 5; left >= 0; left--) {
+            x.undo();
+        }
+        is("18: the whole state comes back", before, picture(x));
+        is("18: with all that is to come", sounds, x.simulate(9, 60));
+        is("18: with what sounded", "1 1", x.about(7) + " " + x.about(8));
+        x.ticks(3);
+        is("18: which is heard as an echo", 1, x.about(8));
+        x.set(2, 0);
+        x.pull(5, 1);
+        x.ticks(55);
+        x.restore(0);
+        is("27: the whole state comes back", before, picture(x));
+        x.ticks(3);
+        is("27: with what sounded", 1, x.about(8));
+    }
+
     private static void promise19DoneIn() {
         OrganPegs x = new OrganPegs();
         x.put(0, 1, 3);
@@ -743,11 +774,16 @@ public final class OrganPegsPromises {
         y.set(2, 2);
         asks("21: wind for one more tick", y, 0, () -> y.leastSpeed(1));
         asks("21: the speed 1 leaves the chord behind", y, 1, () -> y.leastSpeed(2));
+        OrganPegs z = loaded("Op0016p1016p2016p3016p4016p5016t07v200v003t06v260");
+        is("21: six pipes are open", 63, z.chord(z.about(3)));
+        asks("21: the speed 3 makes wind for six", z, 3, () -> z.leastSpeed(99));
     }
 
     private static void promise22Fullest() {
         OrganPegs x = new OrganPegs();
         asks("22: without pegs", x, 0, x::fullest);
+        OrganPegs z = loaded("Op0011t02");
+        asks("22: the bar 1", z, 1, z::fullest);
         OrganPegs y = loaded("Op0223p1231p2061p3061t01");
         asks("22: of several the lowest", y, 6, y::fullest);
         y.put(4, 23, 2);
