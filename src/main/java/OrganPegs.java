@@ -476,7 +476,10 @@ public final class OrganPegs {
             }
         }
 
-        /** Adds a line; the caller writes every cell of it, as a line that is gone may have left its numbers. NONE if the table is full. */
+        /**
+         * Answers the number of the new line, NONE if the table is full. The caller writes every cell of the line,
+         * as one that is gone may have left its numbers there.
+         */
         int addLine() {
             if (isFull()) {
                 return NONE;
