@@ -833,15 +833,20 @@ public final class OrganPegs {
             return count == 0;
         }
 
+        /** A place that does not exist reads as the first one, so no index ever fails. */
+        private Organ stateAt(int place) {
+            return states[place >= 0 && place < STATES_MOST ? place : 0];
+        }
+
         void remember(Organ organ) {
-            states[next].copyFrom(organ);
+            stateAt(next).copyFrom(organ);
             next = next + 1 < STATES_MOST ? next + 1 : 0;
             count = Math.min(count + 1, STATES_MOST);
         }
 
         int bringBack(Organ organ) {
             next = next > 0 ? next - 1 : STATES_MOST - 1;
-            organ.copyFrom(states[next]);
+            organ.copyFrom(stateAt(next));
             count--;
             return count;
         }

@@ -5,10 +5,15 @@ import java.util.List;
 import java.util.Random;
 import java.util.function.IntSupplier;
 
-/** Long runs of calls, each answered by the class and by a plain second writing of the document, which must agree. */
+/**
+ * Runs of 512 calls, as many as the document allows, each answered by the class and by a plain second writing of the
+ * document, which must agree.
+ */
 public final class OrganPegsModelTest {
-    private static final int RUNS = 400;
-    private static final int CALLS = 300;
+    private static final int RUNS = 8000;
+    private static final int CALLS_MOST = 512;
+    /** The calls behind these look at the whole state at the end. */
+    private static final int CALLS_OF_STEPS = 400;
     private static int wrong = 0;
 
     public static void main(String[] args) {
@@ -37,22 +42,58 @@ public final class OrganPegsModelTest {
         private final Model model = new Model();
         private final boolean wild;
         private final List<String> calls = new ArrayList<>();
+        /** Runs with many orders and few other calls come to thirty pegs and to twelve orders. */
+        private final boolean dense;
+        private int made = 0;
         private boolean differs = false;
 
         Run(int number) {
             this.number = number;
             random = new Random(number);
             wild = number % 5 == 0;
+            dense = number % 3 == 0;
         }
 
         void play() {
-            for (int i = 0; i < CALLS && !differs; i++) {
-                step();
-                compareAll();
+            while (made < CALLS_OF_STEPS && !differs) {
+                if (dense && random.nextInt(3) > 0) {
+                    fill();
+                } else {
+                    step();
+                }
+                look();
+            }
+            compareAll();
+        }
+
+        private void fill() {
+            int p = pick(0, 5);
+            int b = pick(0, 23);
+            if (random.nextInt(5) > 0) {
+                compare("put " + p + " " + b + " 1", () -> organ.put(p, b, 1), () -> model.put(p, b, 1));
+            } else {
+                compare("ticks 2", () -> organ.ticks(2), () -> model.ticks(2));
+            }
+        }
+
+        /** Now and then a look at a part of the state. */
+        private void look() {
+            switch (random.nextInt(16)) {
+                case 0: compareNumbers(); break;
+                case 1: comparePipe(random.nextInt(6)); break;
+                case 2: comparePeg(random.nextInt(Math.max(1, model.now.pegs.size()))); break;
+                case 3: compareOrder(random.nextInt(Math.max(1, model.now.orders.size()))); break;
+                case 4: compareChord(random.nextInt(24)); break;
+                case 5: compare("fullest", organ::fullest, model::fullest); break;
+                default: break;
             }
         }
 
         private void compare(String call, IntSupplier got, IntSupplier due) {
+            if (made == CALLS_MOST) {
+                return;
+            }
+            made++;
             String a = answer(got);
             String b = answer(due);
             calls.add(call + " -> " + b);
@@ -200,7 +241,23 @@ public final class OrganPegsModelTest {
         }
 
         private void compareAll() {
+            compareNumbers();
             compare("fullest", organ::fullest, model::fullest);
+            for (int p = 0; p < 6; p++) {
+                comparePipe(p);
+            }
+            for (int k = 0; k < model.now.orders.size(); k++) {
+                compareOrder(k);
+            }
+            for (int k = model.now.pegs.size() - 1; k >= 0; k--) {
+                comparePeg(k);
+            }
+            for (int b = 0; b < 24; b++) {
+                compareChord(b);
+            }
+        }
+
+        private void compareNumbers() {
             for (int i = 0; i < 12; i++) {
                 int what = i;
                 compare("about " + what, () -> organ.about(what), () -> model.about(what));
@@ -213,25 +270,31 @@ public final class OrganPegsModelTest {
                 int way = i;
                 compare("covered " + way, () -> organ.covered(way), () -> model.covered(way));
             }
-            for (int i = 0; i < 24; i++) {
-                int b = i;
-                compare("chord " + b, () -> organ.chord(b), () -> model.chord(b));
-            }
-            for (int i = 0; i < 6 * 5; i++) {
-                int p = i / 5;
-                int what = i % 5;
+        }
+
+        private void comparePipe(int p) {
+            for (int i = 0; i < 5; i++) {
+                int what = i;
                 compare("pipeOf " + p + " " + what, () -> organ.pipeOf(p, what), () -> model.pipeOf(p, what));
             }
-            for (int i = 0; i < 4 * model.now.pegs.size(); i++) {
-                int k = i / 4;
-                int what = i % 4;
+        }
+
+        private void comparePeg(int k) {
+            for (int i = 0; i < 4; i++) {
+                int what = i;
                 compare("pegOf " + k + " " + what, () -> organ.pegOf(k, what), () -> model.pegOf(k, what));
             }
-            for (int i = 0; i < 5 * model.now.orders.size(); i++) {
-                int k = i / 5;
-                int what = i % 5;
+        }
+
+        private void compareOrder(int k) {
+            for (int i = 0; i < 5; i++) {
+                int what = i;
                 compare("orderOf " + k + " " + what, () -> organ.orderOf(k, what), () -> model.orderOf(k, what));
             }
+        }
+
+        private void compareChord(int b) {
+            compare("chord " + b, () -> organ.chord(b), () -> model.chord(b));
         }
     }
 
