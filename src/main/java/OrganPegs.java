@@ -434,7 +434,7 @@ public final class OrganPegs {
         return isSetting(what) && v >= 0 && v <= SETTING_MOST[what];
     }
 
-    /** The bars that a peg covers, as a set (bit b for the bar b). */
+    /** Bars are sets (bit b for the bar b): whether pegs touch is one & then, and what is beyond 23 comes round to 0. */
     private static int span(int bar, int length) {
         int straight = ((1 << length) - 1) << bar;
         int ring = straight | (straight >>> BARS);
@@ -497,7 +497,6 @@ public final class OrganPegs {
             lines--;
         }
 
-        /** Takes over all of a table of the same size. */
         void copyFrom(Table other) {
             lines = other.lines;
             copyRow(other.cells, cells);
@@ -525,7 +524,7 @@ public final class OrganPegs {
 
         private final Table pegs = new Table(PEGS_MOST, PEG_COLUMNS);
         private final Table orders = new Table(ORDERS_MOST, ORDER_COLUMNS);
-        /** For each pipe the bars that its pegs cover, as a set: no two pegs of a pipe cover the same bar. */
+        /** The bars that the pegs of each pipe cover, kept beside the pegs: a tick asks for them too often to search. */
         private final int[] covers = new int[PIPES];
         private final int[] pipeNotes = new int[PIPES];
         private final int[] pipeLacks = new int[PIPES];
@@ -535,7 +534,7 @@ public final class OrganPegs {
         private int turns;
         private int version;
         private int wind;
-        /** The pipes that sounded in the latest ten ticks, six bits a tick, the latest one lowest. */
+        /** Sounding pipes, six bits a tick, the latest lowest: an echo reaches back 9 ticks, so one long is enough. */
         private long past;
         private int heard;
         private int notes;
@@ -635,7 +634,6 @@ public final class OrganPegs {
             return isPipe(pipe) && (covers[pipe] & span(bar, 1)) != 0;
         }
 
-        /** Tells whether no peg of the pipe covers a bar of the set. */
         boolean isFree(int pipe, int bars) {
             return !isPipe(pipe) || (covers[pipe] & bars) == 0;
         }
@@ -759,12 +757,12 @@ public final class OrganPegs {
         }
 
         private boolean goesOnWaiting(int k) {
+            // An order to pull has the length 0, so it never reaches the comb.
             int bars = span(orders.at(k, ORDER_BAR), orders.at(k, ORDER_LENGTH));
-            boolean reachesComb = isPut(k) && (bars & span(comb, 1)) != 0;
+            boolean reachesComb = (bars & span(comb, 1)) != 0;
             return reachesComb || isOpen(orders.at(k, ORDER_PIPE), comb);
         }
 
-        /** Does the order to put; answers false if it is void. */
         private boolean placePeg(int order) {
             int pipe = orders.at(order, ORDER_PIPE);
             int bar = orders.at(order, ORDER_BAR);
@@ -782,7 +780,6 @@ public final class OrganPegs {
             return true;
         }
 
-        /** Does the order to pull; answers false if it is void. */
         private boolean takePeg(int order) {
             int pipe = orders.at(order, ORDER_PIPE);
             int bar = orders.at(order, ORDER_BAR);
@@ -817,7 +814,7 @@ public final class OrganPegs {
         }
     }
 
-    /** The latest states that undo brings back, in a ring. */
+    /** A ring, so that a state too many takes the place of the oldest one, and no call makes an object. */
     private static final class History {
         private final Organ[] states = new Organ[STATES_MOST];
         private int next;
@@ -856,7 +853,7 @@ public final class OrganPegs {
         }
     }
 
-    /** The save slots. */
+    /** Apart from the state and from History: what is saved outlives undo and restore, but not load. */
     private static final class Slots {
         private final Organ[] states = new Organ[SLOTS];
         private final boolean[] stored = new boolean[SLOTS];
